@@ -1,0 +1,84 @@
+import java.lang.reflect.Constructor;
+import java.lang.reflect.Field;
+import java.lang.reflect.Method;
+import java.lang.reflect.Modifier;
+import java.nio.file.Files;
+import java.nio.file.Path;
+import java.util.ArrayList;
+import java.util.List;
+
+/** The face has what the document tells and nothing else, and the source no word that LANGUAGE.md rules out. */
+public final class FaceTest {
+    private static final String[] METHODS = {
+        "int letters(long)", "int blank()", "int fault(int)", "int plan()", "int square(int,int)",
+        "int thing(int,int,int)", "int about(int,int)", "int as(int,int)", "int stand(int,int,int)",
+        "int put(int,int)", "int trade(int,int,int)", "int leans(int,int)", "int dip(int,int)", "int wet(int)",
+        "int trades(int,int)", "int counter(int,int,int)", "int stones(int)", "int site(int)",
+        "int late(int,int,int)", "int storm(int)", "int moss()", "int cows(int,int,int,int)",
+        "int image()", "int restore()", "int count(int)", "long digest()"};
+    private static final String[] CONSTANTS = {"NONE", "UNKNOWN", "OUTSIDE", "STATE", "FULL"};
+    private static final String[] RULED_OUT = {"import ", "->", "::", "synchronized", "finally", "assert ",
+        "throw", "catch", "System.out", "System.nano", "System.current", "System.getenv", "Random",
+        "Thread", "hashCode", "equals", "toString", "NaN", "protected ", "package "};
+
+    public static void main(String[] args) throws Exception {
+        constants();
+        face();
+        source();
+        Due.end();
+    }
+
+    private static void constants() {
+        Due.is("NONE", IslandThatLeans.NONE, -1);
+        Due.is("UNKNOWN", IslandThatLeans.UNKNOWN, -101);
+        Due.is("OUTSIDE", IslandThatLeans.OUTSIDE, -102);
+        Due.is("STATE", IslandThatLeans.STATE, -103);
+        Due.is("FULL", IslandThatLeans.FULL, -104);
+    }
+
+    private static void face() {
+        List<String> methods = new ArrayList<>(List.of(METHODS));
+        for (Method method : IslandThatLeans.class.getDeclaredMethods()) {
+            String told = signature(method);
+            if (Modifier.isPublic(method.getModifiers())) {
+                Due.holds(told + " is in the document", methods.remove(told) && !Modifier.isStatic(method.getModifiers()));
+            } else {
+                Due.holds(told + " is private", method.isSynthetic() || Modifier.isPrivate(method.getModifiers()));
+                Due.holds(told + " bears no public name", !List.of(METHODS).toString().contains(" " + method.getName() + "("));
+            }
+        }
+        Due.holds("all of the document is there but " + methods, methods.isEmpty());
+        List<String> constants = List.of(CONSTANTS);
+        for (Field field : IslandThatLeans.class.getDeclaredFields()) {
+            boolean isPublic = Modifier.isPublic(field.getModifiers());
+            Due.holds(field.getName() + " is as told", isPublic == constants.contains(field.getName()));
+            Due.holds(field.getName() + " is private", isPublic || Modifier.isPrivate(field.getModifiers()));
+        }
+        Constructor<?>[] made = IslandThatLeans.class.getDeclaredConstructors();
+        Due.is("constructors", made.length, 1);
+        Due.holds("it is public, without parameters", Modifier.isPublic(made[0].getModifiers()) && made[0].getParameterCount() == 0);
+        Due.holds("the class is final", Modifier.isFinal(IslandThatLeans.class.getModifiers()));
+    }
+
+    private static String signature(Method method) {
+        StringBuilder text = new StringBuilder();
+        text.append(method.getReturnType().getName()).append(' ').append(method.getName()).append('(');
+        for (int i = 0; i < method.getParameterCount(); i++) {
+            text.append(i > 0 ? "," : "").append(method.getParameterTypes()[i].getName());
+        }
+        return text.append(')').toString();
+    }
+
+    private static void source() throws Exception {
+        StringBuilder code = new StringBuilder();
+        for (String line : Files.readAllLines(Path.of("src/main/java/IslandThatLeans.java"))) {
+            String bare = line.strip();
+            if (!bare.startsWith("//") && !bare.startsWith("*") && !bare.startsWith("/*")) {
+                code.append(line).append('\n');
+            }
+        }
+        for (String word : RULED_OUT) {
+            Due.holds("no " + word + " in the source", code.indexOf(word) < 0);
+        }
+    }
+}
