@@ -1,5 +1,7 @@
 /** Compares answers with those that are due, and ends a test's run. */
 final class Due {
+    private static final int MOST_TOLD = 40;
+
     private static int asked = 0;
     private static int wrong = 0;
 
@@ -10,7 +12,9 @@ final class Due {
         asked++;
         if (got != want) {
             wrong++;
-            System.out.println(call + " answered " + got + ", due is " + want);
+            if (wrong <= MOST_TOLD) {
+                System.out.println(call + " answered " + got + ", due is " + want);
+            }
         }
     }
 
@@ -27,6 +31,13 @@ final class Due {
         return answer;
     }
 
+    /** A new object on whose PAGE that text stands. */
+    static IslandThatLeans lettered(String text) {
+        IslandThatLeans x = new IslandThatLeans();
+        write(x, text);
+        return x;
+    }
+
     /** Up to eight letters as one long, the first in the lowest byte. */
     static long packed(String text) {
         long w = 0;
@@ -38,10 +49,24 @@ final class Due {
 
     /** A new object on which that plan was read. */
     static IslandThatLeans planned(String text) {
-        IslandThatLeans x = new IslandThatLeans();
-        write(x, text);
+        IslandThatLeans x = lettered(text);
         x.plan();
         return x;
+    }
+
+    /** So many rows of so many squares, all of them like that sign. */
+    static String page(int rows, int columns, char sign) {
+        String row = String.valueOf(sign).repeat(columns);
+        return row + ("/" + row).repeat(rows - 1);
+    }
+
+    /** h of digest(): 613, then for each number 31 times h, and it. */
+    static long folded(long... numbers) {
+        long h = 613;
+        for (long number : numbers) {
+            h = 31 * h + number;
+        }
+        return h;
     }
 
     static void end() {

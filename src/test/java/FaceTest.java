@@ -24,6 +24,7 @@ public final class FaceTest {
     public static void main(String[] args) throws Exception {
         constants();
         face();
+        classesInside();
         source();
         Due.end();
     }
@@ -58,6 +59,34 @@ public final class FaceTest {
         Due.is("constructors", made.length, 1);
         Due.holds("it is public, without parameters", Modifier.isPublic(made[0].getModifiers()) && made[0].getParameterCount() == 0);
         Due.holds("the class is final", Modifier.isFinal(IslandThatLeans.class.getModifiers()));
+    }
+
+    /** Rules 1, 2, 5 and 11: what stands inside is private and static, bears no name of the face, and is not much. */
+    private static void classesInside() {
+        Class<?>[] inside = IslandThatLeans.class.getDeclaredClasses();
+        Due.holds("some twelve classes at most", inside.length < 12);
+        smallClass(IslandThatLeans.class);
+        for (Class<?> each : inside) {
+            Due.holds(each + " is private", Modifier.isPrivate(each.getModifiers()));
+            Due.holds(each + " is static", Modifier.isStatic(each.getModifiers()));
+            smallClass(each);
+            for (Method method : each.getDeclaredMethods()) {
+                Due.holds(method + " is not public", !Modifier.isPublic(method.getModifiers()));
+                Due.holds(method + " takes seven at most", method.getParameterCount() <= 7);
+                Due.holds(method + " bears no public name", !Modifier.isPrivate(method.getModifiers())
+                        || !List.of(METHODS).toString().contains(" " + method.getName() + "("));
+            }
+        }
+    }
+
+    private static void smallClass(Class<?> each) {
+        int fields = 0;
+        for (Field field : each.getDeclaredFields()) {
+            boolean isStatic = Modifier.isStatic(field.getModifiers());
+            fields += isStatic ? 0 : 1;
+            Due.holds(field + " is final, if it is static", !isStatic || Modifier.isFinal(field.getModifiers()));
+        }
+        Due.holds(each + " has some twenty fields at most", fields <= 20);
     }
 
     private static String signature(Method method) {
