@@ -103,6 +103,7 @@ public final class ToldOfAllEdgesTest {
     private static void restoreWhereNoneWasKept() {
         IslandThatLeans bare = new IslandThatLeans();
         Due.is("restore() of a new object", bare.restore(), STATE);
+        Due.is("things behind STATE", bare.count(2), 0);
         IslandThatLeans x = Due.planned("1./..");
         Due.is("restore() behind a plan", x.restore(), STATE);
         x.thing(3, 40, 0);
