@@ -31,6 +31,7 @@ public final class SearchEdgesTest {
         counterOfNoWay();
         counterOfOneAndSevenLetters();
         counterThatLeavesTheIsland();
+        counterStaysAtItsEnd();
         counterRefusalsInOrder();
         counterOfLikeOnesTheLeast();
         counterInAllQuarters();
@@ -436,6 +437,21 @@ public final class SearchEdgesTest {
         Due.is("to a row's end", going("w").counter(2, 1, 0), STATE);
     }
 
+    // "and stays at its end for the rest of the DAY": letters that stood there before are gone.
+    private static void counterStaysAtItsEnd() {
+        for (String before : new String[] {"nnnnnnn", "eeeeeee", "sssssss", "wwwwwww"}) {
+            IslandThatLeans x = going(before);
+            Due.is("a way that leaves", x.counter(0, 30, 0), STATE);
+            x.blank();
+            for (String way : new String[] {"e", "s", "es", "se", "esw", "esnwe"}) {
+                Due.write(x, way);
+                Due.is(way + " behind " + before, x.counter(0, 30, 0), 3);
+                Due.is("wet doors by " + way + " behind " + before, x.counter(0, 30, 1), 0);
+                x.blank();
+            }
+        }
+    }
+
     private static void counterRefusalsInOrder() {
         IslandThatLeans x = going("x");
         Due.is("square, weight, what, no way", x.counter(4, 0, 2), UNKNOWN);
@@ -677,6 +693,14 @@ public final class SearchEdgesTest {
         x.thing(0, 60, 0);
         // 300: two lift 240 at most, three 360.
         stonesTell("three that would do", x, NONE, NONE, NONE, NONE, NONE);
+        // Wherever they stand they wet a door: there is no SQUARE beside the island.
+        for (int heavy = 1; heavy <= 2; heavy++) {
+            IslandThatLeans all = Due.planned("11/11");
+            for (int number = 0; number < heavy; number++) {
+                all.thing(1, 30 + 60 * number, 3);
+            }
+            stonesTell("doors in all squares", all, NONE, NONE, NONE, NONE, NONE);
+        }
         x.put(0, 3);
         stonesTell("one of them at 3 already", x, 2, 1, 1, 2, 3);
     }
