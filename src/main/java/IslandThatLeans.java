@@ -1036,18 +1036,21 @@ public final class IslandThatLeans {
                 judge(east, south, moved);
                 return;
             }
-            int weighs = things.weighs(people[person]);
             for (int whose = 0; whose < size; whose++) {
-                int bit = 1 << whose;
-                if ((gone & bit) == 0) {
-                    int square = squares[whose];
-                    taken[person] = square;
-                    takeSquares(person + 1, gone | bit,
-                            east + weighs * island.east(square),
-                            south + weighs * island.south(square),
-                            square == squares[person] ? moved : moved + 1);
+                if ((gone & (1 << whose)) == 0) {
+                    takeSquareOf(whose, person, gone, east, south, moved);
                 }
             }
+        }
+
+        private void takeSquareOf(int whose, int person, int gone, int east, int south, int moved) {
+            int square = squares[whose];
+            int weighs = things.weighs(people[person]);
+            taken[person] = square;
+            takeSquares(person + 1, gone | (1 << whose),
+                    east + weighs * island.east(square),
+                    south + weighs * island.south(square),
+                    square == squares[person] ? moved : moved + 1);
         }
 
         private void judge(int east, int south, int moved) {

@@ -6,6 +6,8 @@ import java.nio.file.Files;
 import java.nio.file.Path;
 import java.util.ArrayList;
 import java.util.List;
+import java.util.regex.Matcher;
+import java.util.regex.Pattern;
 
 /** The face has what the document tells and nothing else, and the source no word that LANGUAGE.md rules out. */
 public final class FaceTest {
@@ -20,6 +22,8 @@ public final class FaceTest {
     private static final String[] RULED_OUT = {"import ", "->", "::", "synchronized", "finally", "assert ",
         "throw", "catch", "System.out", "System.nano", "System.current", "System.getenv", "Random",
         "Thread", "hashCode", "equals", "toString", "NaN", "protected ", "package "};
+    private static final List<String> LIBRARY = List.of("Integer.bitCount", "Math.max", "System.arraycopy");
+    private static final int MOST_LINES = 60;
 
     public static void main(String[] args) throws Exception {
         constants();
@@ -109,5 +113,28 @@ public final class FaceTest {
         for (String word : RULED_OUT) {
             Due.holds("no " + word + " in the source", code.indexOf(word) < 0);
         }
+        Matcher used = Pattern.compile("\\b(?:Integer|Long|Math|System|Arrays)\\.\\w+").matcher(code);
+        while (used.find()) {
+            Due.holds(used.group() + " is one of the library's that are used", LIBRARY.contains(used.group()));
+        }
+        methodsInside(code.toString());
+    }
+
+    /** Rules 8 and 11: methods are short, and none that is not static calls itself without another between. */
+    private static void methodsInside(String code) {
+        Matcher heads = Pattern.compile("(?m)^( +)(?:[a-z]+ )*(?:[\\w\\[\\]]+ )?(\\w+)\\([^()]*\\) \\{$").matcher(code);
+        int methods = 0;
+        while (heads.find()) {
+            int end = code.indexOf("\n" + heads.group(1) + "}", heads.end());
+            String body = code.substring(heads.end(), end);
+            String name = heads.group(2);
+            if (List.of("if", "for", "while", "switch").contains(name)) {
+                continue;
+            }
+            methods++;
+            Due.holds(name + " is short", body.lines().count() <= MOST_LINES);
+            Due.holds(name + " does not call itself", !Pattern.compile("(?<![.\\w])" + name + "\\(").matcher(body).find());
+        }
+        Due.holds("its methods were found", methods > 26);
     }
 }

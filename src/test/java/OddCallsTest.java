@@ -15,12 +15,6 @@ public final class OddCallsTest {
     private static final int[] FEW = {Integer.MIN_VALUE, -1, 0, 1, 2, 7, 8, 10, 17, 18, 60, 61, Integer.MAX_VALUE};
     private static final int[] ONE = {0};
 
-    private static final String[] NAMES = {"letters", "blank", "fault", "plan", "square", "thing", "about", "as",
-        "stand", "put", "trade", "leans", "dip", "wet", "trades", "counter", "stones", "site", "late", "storm", "moss",
-        "cows", "image", "restore", "count"};
-    private static final int[] PARAMETERS = {1, 0, 1, 0, 2, 3, 2, 2, 3, 2, 3, 2, 2, 1, 2, 3, 1, 1, 3, 1, 0, 4, 0, 0, 1};
-    private static final int LETTERS = 0, PLAN = 3, THING = 5, STAND = 8, TRADES = 14, STONES = 16, IMAGE = 22, RESTORE = 23;
-
     private final String state;
     private final List<int[]> recipe;
     private IslandThatLeans program;
@@ -55,49 +49,49 @@ public final class OddCallsTest {
     private static List<int[]> lettered(List<int[]> recipe, String text) {
         List<int[]> more = recipe;
         for (char letter : text.toCharArray()) {
-            more = with(more, LETTERS, letter);
+            more = with(more, Both.LETTERS, letter);
         }
         return more;
     }
 
     private static List<int[]> planned(String text) {
-        return with(lettered(new ArrayList<>(), text), PLAN);
+        return with(lettered(new ArrayList<>(), text), Both.PLAN);
     }
 
     private static List<int[]> peopled(List<int[]> recipe, int things, String way) {
         List<int[]> more = recipe;
         for (int number = 0; number < things; number++) {
-            more = with(more, THING, (number + 1) % 5, 5 + 9 * number, number % 6);
-            more = with(more, STAND, number, number, 0);
+            more = with(more, Both.THING, (number + 1) % 5, 5 + 9 * number, number % 6);
+            more = with(more, Both.STAND, number, number, 0);
         }
         return lettered(more, way);
     }
 
     private static List<int[]> imaged() {
         List<int[]> more = peopled(planned("21./..1"), 5, "e");
-        more = with(more, IMAGE);
-        more = with(more, THING, 3, 99, 0);
-        more = with(more, THING, 3, 1, 0);
-        more = with(more, RESTORE);
-        return with(more, THING, 4, 9, 3);
+        more = with(more, Both.IMAGE);
+        more = with(more, Both.THING, 3, 99, 0);
+        more = with(more, Both.THING, 3, 1, 0);
+        more = with(more, Both.RESTORE);
+        return with(more, Both.THING, 4, 9, 3);
     }
 
     private static List<int[]> done() {
         List<int[]> more = peopled(planned("1./.2"), 4, "x");
         for (int time = 0; time < 30; time++) {
-            more = with(more, TRADES, 0, 0);
+            more = with(more, Both.TRADES, 0, 0);
         }
         for (int time = 0; time < 20; time++) {
-            more = with(more, STONES, 0);
+            more = with(more, Both.STONES, 0);
         }
         return more;
     }
 
     private void oddCalls() {
-        for (int method = 0; method < NAMES.length; method++) {
+        for (int method = 0; method < Both.DIGEST; method++) {
             // What a call before has changed is gone.
             calls = CALLS_OF_AN_OBJECT;
-            int many = PARAMETERS[method];
+            int many = Both.PARAMETERS[method];
             int[] each = many < 3 ? MANY : many == 3 ? SOME : FEW;
             for (int a : many > 0 ? each : ONE) {
                 for (int b : many > 1 ? each : ONE) {
@@ -116,8 +110,8 @@ public final class OddCallsTest {
         model = new PlainModel();
         calls = 0;
         for (int[] call : recipe) {
-            Due.is(state + ": " + NAMES[call[0]], ask(program, call[0], call[1], call[2], call[3], 0),
-                    ask(model, call[0], call[1], call[2], call[3], 0));
+            Due.is(state + ": " + Both.NAMES[call[0]], Both.answer(program, call[0], call[1], call[2], call[3], 0),
+                    Both.answer(model, call[0], call[1], call[2], call[3], 0));
         }
         told = program.digest();
     }
@@ -127,18 +121,18 @@ public final class OddCallsTest {
             renew();
         }
         calls++;
-        String call = state + ": " + NAMES[method] + "(" + a + ", " + b + ", " + c + ", " + d + ")";
+        String call = state + ": " + Both.NAMES[method] + "(" + a + ", " + b + ", " + c + ", " + d + ")";
         long before = told;
         long answer;
         try {
-            answer = ask(program, method, a, b, c, d);
+            answer = Both.answer(program, method, a, b, c, d);
             told = program.digest();
         } catch (RuntimeException thrown) {
             Due.holds(call + " does not throw " + thrown, false);
             calls = CALLS_OF_AN_OBJECT;
             return;
         }
-        Due.is(call, answer, ask(model, method, a, b, c, d));
+        Due.is(call, answer, Both.answer(model, method, a, b, c, d));
         if (isRefusal(answer)) {
             Due.is("digest() behind the refused " + call, told, before);
         }
@@ -163,66 +157,6 @@ public final class OddCallsTest {
                     }
                 }
             }
-        }
-    }
-
-    private static long ask(IslandThatLeans x, int method, int a, int b, int c, int d) {
-        switch (method) {
-            case 0: return x.letters(a);
-            case 1: return x.blank();
-            case 2: return x.fault(a);
-            case 3: return x.plan();
-            case 4: return x.square(a, b);
-            case 5: return x.thing(a, b, c);
-            case 6: return x.about(a, b);
-            case 7: return x.as(a, b);
-            case 8: return x.stand(a, b, c);
-            case 9: return x.put(a, b);
-            case 10: return x.trade(a, b, c);
-            case 11: return x.leans(a, b);
-            case 12: return x.dip(a, b);
-            case 13: return x.wet(a);
-            case 14: return x.trades(a, b);
-            case 15: return x.counter(a, b, c);
-            case 16: return x.stones(a);
-            case 17: return x.site(a);
-            case 18: return x.late(a, b, c);
-            case 19: return x.storm(a);
-            case 20: return x.moss();
-            case 21: return x.cows(a, b, c, d);
-            case 22: return x.image();
-            case 23: return x.restore();
-            default: return x.count(a);
-        }
-    }
-
-    private static long ask(PlainModel x, int method, int a, int b, int c, int d) {
-        switch (method) {
-            case 0: return x.letters(a);
-            case 1: return x.blank();
-            case 2: return x.fault(a);
-            case 3: return x.plan();
-            case 4: return x.square(a, b);
-            case 5: return x.thing(a, b, c);
-            case 6: return x.about(a, b);
-            case 7: return x.as(a, b);
-            case 8: return x.stand(a, b, c);
-            case 9: return x.put(a, b);
-            case 10: return x.trade(a, b, c);
-            case 11: return x.leans(a, b);
-            case 12: return x.dip(a, b);
-            case 13: return x.wet(a);
-            case 14: return x.trades(a, b);
-            case 15: return x.counter(a, b, c);
-            case 16: return x.stones(a);
-            case 17: return x.site(a);
-            case 18: return x.late(a, b, c);
-            case 19: return x.storm(a);
-            case 20: return x.moss();
-            case 21: return x.cows(a, b, c, d);
-            case 22: return x.image();
-            case 23: return x.restore();
-            default: return x.count(a);
         }
     }
 }
